@@ -458,11 +458,16 @@ final class PlainHouse {
         return wanted.size() - 1;
     }
 
-    /** Every table there is, by the numbers with as many digits as WATCHERS and one more. */
     int table(int one) {
         if (!in(one, NONE, wanted.size() - 1)) {
             return -2;
         }
+        int[] best = bestTable();
+        return one == NONE ? (int) Arrays.stream(best).filter(w -> w != NONE).count() : best[one];
+    }
+
+    /** Of every table there is, told by the numbers of as many digits as WANTED ones. */
+    int[] bestTable() {
         int base = watchers.size() + 1;
         int[] best = null;
         int most = -1;
@@ -479,7 +484,7 @@ final class PlainHouse {
                 best = table;
             }
         }
-        return one == NONE ? most : best[one] == base - 1 ? NONE : best[one];
+        return Arrays.stream(best).map(w -> w == base - 1 ? NONE : w).toArray();
     }
 
     private boolean isTable(int[] table) {

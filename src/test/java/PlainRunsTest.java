@@ -5,6 +5,9 @@ import java.util.Random;
 public final class PlainRunsTest {
     private static final int RUNS = 400;
     private static final int TEXTS = 6000;
+    private static final int TABLES = 60;
+    private static final int ROUNDS = 300;
+    /** Arguments that no call takes, or few. */
     private static final int[] ODD = {Integer.MIN_VALUE, Integer.MAX_VALUE, -1000000, -2, -1, 24, 200, 1000,
         1001, 9999, 10000, 65536};
 
@@ -26,6 +29,13 @@ public final class PlainRunsTest {
                 run.step("run " + seed + ", call " + call + ": ", call);
             }
         }
+        for (int seed = 0; seed < TABLES; seed++) {
+            new PlainRunsTest(seed).fullTable("table " + seed + ": ");
+        }
+        for (int seed = 0; seed < ROUNDS; seed++) {
+            new PlainRunsTest(seed).allBought("questions " + seed + ": ");
+            new PlainRunsTest(seed).fewTurns("turns " + seed + ": ");
+        }
         PlainRunsTest texts = new PlainRunsTest(RUNS);
         PlainGrammar grammar = new PlainGrammar();
         for (int i = 0; i < TEXTS; i++) {
@@ -33,6 +43,56 @@ public final class PlainRunsTest {
             Due.fault(text, grammar.faultOf(text));
         }
         Due.end();
+    }
+
+    private void fullTable(String at) {
+        int hours = 3 + random.nextInt(9);
+        int places = 1 + random.nextInt(4);
+        for (int i = 1 + random.nextInt(4); i > 0; i--) {
+            int from = random.nextInt(hours);
+            int to = from + random.nextInt(hours);
+            Due.is(at + "watcher", house.watcher(from, to), plain.watcher(from, to));
+        }
+        for (int i = 0; i < 8; i++) {
+            int place = random.nextInt(places);
+            int hour = random.nextInt(hours);
+            Due.is(at + "want", house.want(place, hour), plain.want(place, hour));
+        }
+        int[] table = plain.bestTable();
+        for (int one = 0; one < 8; one++) {
+            Due.is(at + "table(" + one + ")", house.table(one), table[one]);
+        }
+    }
+
+    private void allBought(String at) {
+        for (int i = 1 + random.nextInt(8); i > 0; i--) {
+            int price = 1 + random.nextInt(4);
+            int sorts = random.nextInt(32);
+            Due.is(at + "question", house.question(price, sorts), plain.question(price, sorts));
+        }
+        for (int coin = 0; coin < 24; coin++) {
+            Due.is(at + "buy(" + coin + ")", house.buy(coin), plain.buy(coin));
+        }
+    }
+
+    private void fewTurns(String at) {
+        house.person(0, 20, 0);
+        plain.person(0, 20, 0);
+        house.days(9);
+        plain.days(9);
+        for (int i = 2 + random.nextInt(7); i > 0; i--) {
+            int day = random.nextInt(10);
+            int mood = random.nextInt(5) - 2;
+            house.line(0, day, 0, mood, -1, -1);
+            plain.line(0, day, 0, mood, -1, -1);
+        }
+        for (int from = 0; from < 9; from++) {
+            for (int to = from; to <= 9; to++) {
+                String call = at + "turn(" + from + ", " + to + ", 9, ";
+                Due.is(call + "0)", house.turn(from, to, 9, 0), plain.turn(from, to, 9, 0));
+                Due.is(call + "1)", house.turn(from, to, 9, 1), plain.turn(from, to, 9, 1));
+            }
+        }
     }
 
     private int upTo(int most) {
