@@ -1071,10 +1071,10 @@ public final class DiaryHouse {
 
         int worth(char label, int[] letters, Numbers numbers) {
             boolean counts = false;
+            numbers.clear();
             for (int code : codes) {
                 if (code < 0 && LABELS.indexOf((char) -code) >= 0) {
                     counts = code == -label;
-                    numbers.clear();
                 } else if (counts && code == -';') {
                     return numbers.pop();
                 } else if (counts && code == -'?') {
@@ -1298,6 +1298,8 @@ public final class DiaryHouse {
             return digits > 0;
         }
 
+        // Blanks are left behind here, ahead of every sign but a number's later digits; so they may stand
+        // ahead of the first sign and behind the last one too.
         private boolean sees(String oneOf) {
             while (at < size && signs[at] == ' ') {
                 at++;

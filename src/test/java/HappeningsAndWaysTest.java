@@ -47,6 +47,8 @@ public final class HappeningsAndWaysTest {
         x.days(1);
         x.happen(2, 1, 5, false);
         x.happen(2, 1, 5, true);
+        x.line(0, 1, 4, 0, -1, -1);
+        Due.is("truth by the first HAPPENING told", x.truth(1, 5), 1);
         Due.is("truth as known in 2", x.truth(0, 2), 2);
         Due.is("truth as known in 3", x.truth(0, 3), 1);
         Due.is("truth as known in 4", x.truth(0, 4), 0);
@@ -54,7 +56,7 @@ public final class HappeningsAndWaysTest {
         Due.is("told behind q", x.truth(0, 1), -1);
         Due.is("q behind NOW", x.truth(0, 6), -1);
         Due.is("q below 0", x.truth(0, -1), -1);
-        Due.is("no such LINE", x.truth(1, 5), -1);
+        Due.is("no such LINE", x.truth(2, 5), -1);
         Due.is("no such LINE", x.truth(-1, 5), -1);
     }
 

@@ -62,6 +62,8 @@ public final class KnownAndBoughtTest {
         hideIs(2, 1, new int[][] {{0, 20, 0}, {1, 20, 0}, {0, 30, 0}, {1, 30, 0}});
         // WORK alone is fewer than PLACE and STRATUM, though its bit is the greatest
         hideIs(2, 4, new int[][] {{0, 20, 0}, {0, 20, 1}, {1, 30, 0}, {1, 30, 1}});
+        hideIs(2, 1, new int[][] {{7, 20, 0}, {0, 20, 0}, {0, 20, 0}});
+        hideIs(2, 1, new int[][] {{0, 20, 0}, {0, 20, 0}, {7, 20, 0}});
         hideIs(4, 6, new int[][] {{0, 20, 0}, {0, 30, 1}, {0, 30, 2}, {0, 70, 3}});
     }
 

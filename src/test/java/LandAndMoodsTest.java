@@ -180,6 +180,9 @@ public final class LandAndMoodsTest {
         Due.is("last(0, 9)", x.last(0, 9), 2);
         Due.is("last(0, 10)", x.last(0, 10), 4);
         Due.is("last(1, 10)", x.last(1, 10), -1);
+        x.line(1, 3, 0, 0, -1, -1);
+        Due.is("last(1, 10) once it wrote", x.last(1, 10), 6);
+        Due.is("last of the very first LINE", moods(3, new int[][] {{2, 0}, {1, 0}}).last(0, 3), 0);
         Due.is("last(2, 10)", x.last(2, 10), -1);
         Due.is("last(-1, 10)", x.last(-1, 10), -1);
         Due.is("last(0, 11)", x.last(0, 11), -1);
@@ -204,6 +207,7 @@ public final class LandAndMoodsTest {
         Due.is("lean(1, 0)", x.lean(1, 0), 1000 - 500);
         x.days(1);
         Due.is("lean(1, 1)", x.lean(1, 1), 500 - 600);
+        allOthersOfOneSort();
         Due.is("lean(2, 1)", x.lean(2, 1), 500 - 200);
         Due.is("lean(3, 1)", x.lean(3, 1), -200);
         Due.is("lean(9, 1)", x.lean(9, 1), 0);
@@ -219,6 +223,15 @@ public final class LandAndMoodsTest {
         Due.is("lean(10, 1)", x.lean(10, 1), HIDDEN);
         Due.is("lean(1, 3)", x.lean(1, 3), HIDDEN);
         Due.is("lean(1, -1)", x.lean(1, -1), HIDDEN);
+    }
+
+    private static void allOthersOfOneSort() {
+        DiaryHouse x = moods(0, new int[][] {{0, 0}});
+        x.person(0, 20, 1);
+        x.line(1, 0, 5, 0, -1, -1);
+        x.stop(0, 0);
+        Due.is("all others of the SORT", x.lean(5, 0), -1000);
+        Due.is("all that STOPPED of the SORT", x.lean(0, 0), 1000);
     }
 
     /** A house on a DAY with one PERSON whose LINES are told as {DAY, MOOD}. */

@@ -25,7 +25,13 @@ public final class TapeTest {
             Due.is("feed of twenty", x.feed(-1, 0x80808080, 0x7F7F7F7F, 0x31313131, 0x31313131), 20 * i);
         }
         Due.is("feed of 19", x.feed(-1, -1, -1, -1, 0x01010100), 159);
-        Due.is("feed of two more", x.feed(0, 0, 0x01000001, 0, 0), -1);
+        for (int word = 0; word < 5; word++) {
+            int[] w = new int[5];
+            w[word] = 0x01000001;
+            Due.is("feed of two more in word " + word, x.feed(w[0], w[1], w[2], w[3], w[4]), -1);
+            w[word] = 0x00010100;
+            Due.is("feed of two more in word " + word, x.feed(w[0], w[1], w[2], w[3], w[4]), -1);
+        }
         Due.is("bytes after it", x.count(9), 159);
         Due.is("feed of one more", x.feed(0, 0, 0, 0, 1), 160);
         Due.is("feed of one too many", x.feed(1, 0, 0, 0, 0), -1);
@@ -101,6 +107,8 @@ public final class TapeTest {
         Due.fault("q:a=1&(p=2)?1", -1);
         Due.fault("q:a=(1)?1", 4);
         Due.fault("q:a=!1?1", 4);
+        Due.fault("q:a=?1", 4);
+        Due.fault("q:!a=?1", 5);
         Due.fault("q:!a", 4);
         Due.fault("q:!a?1", 4);
         Due.fault("q:!a=1", 6);
@@ -156,6 +164,13 @@ public final class TapeTest {
         Due.fault("q:!!!!!(a=1)&!!!!!(a=1)?1", -1);
         Due.fault("q:!!!!!!(a=1)?1", 8);
         Due.fault("q:!!!!!!a=1|[[[[[[[1]=1?1", 18);
+        // behind a SUM that began a CONDITION
+        Due.fault("q:a=[[[[[[1]]]]]]?1", -1);
+        Due.fault("q:a=[[[[[[[1", 10);
+        Due.fault("q:a=1&!!!!!!p=1|!!!!!!w=1?[[[[[[1]]]]]]", -1);
+        Due.fault("q:a=1&!!!!!!!p=1?1", 12);
+        Due.fault("q:a=1|!!!!!!!p=1?1", 12);
+        Due.fault("q:a=1?[[[[[[[1", 12);
         Due.fault("q:a=1?[[[[[[1]]]]]];s:[[[[[[1]]]]]];d:[[[[[[[1", 44);
     }
 
