@@ -126,6 +126,8 @@ public final class RulesTest {
         holds("1=2&1=2|1=1", true);
         holds("1=2|1=2|1=1", true);
         holds("1=1&1=1&1=2", false);
+        holds("1<2&2>1&1=1", true);
+        holds("1<2&!2<1&!1>2", true);
         holds("!1=2", true);
         holds("!!1=2", false);
         holds("!1=2&1=2", false);

@@ -34,7 +34,9 @@ public final class TapeTest {
         }
         Due.is("bytes after it", x.count(9), 159);
         Due.is("feed of one more", x.feed(0, 0, 0, 0, 1), 160);
-        Due.is("feed of one too many", x.feed(1, 0, 0, 0, 0), -1);
+        for (int bit = 0; bit < 32; bit++) {
+            Due.is("feed of one too many, bit " + bit, x.feed(0, 0, 1 << bit, 0, 0), -1);
+        }
         Due.is("feed of none", x.feed(0, 0, 0, 0, 0), 160);
         Due.is("bytes of the TAPE", x.count(9), 160);
     }
