@@ -146,6 +146,9 @@ public final class LandAndMoodsTest {
         // LINES of one DAY go by their numbers: 5, 1 | 9, 4 and 9, 4 | 5, 1, but neither 1, 9 nor 4, 5
         turnIs(moods(9, new int[][] {{1, 5}, {2, 9}, {1, 1}, {2, 4}}), 0, 9, 9, 2, 2);
         turnIs(moods(9, new int[][] {{1, 1}, {2, 9}, {1, 5}, {2, 4}}), 0, 9, 9, 2, 4);
+        // 0, 5 and 5, 1 and 0, 0 are far from the others; told 5, 0 it is 5, 0 and 0, 5
+        turnIs(moods(9, new int[][] {{1, 0}, {1, 5}, {2, 1}, {2, 1}, {3, 0}}), 0, 9, 9, 2, 3);
+        turnIs(moods(9, new int[][] {{1, 5}, {1, 0}, {2, 1}, {2, 1}, {3, 0}}), 0, 9, 9, 2, 2);
         turnIs(moods(9, new int[][] {{1, 5}, {1, 5}, {2, -5}, {2, -5}}), 0, 9, 9, 2, 2);
         turnIs(moods(9, new int[][] {{1, -5}, {2, 5}, {3, -5}, {4, 5}}), 0, 9, 9, 2, 4);
         turnIs(moods(9, new int[][] {{1, 9}, {2, -9}, {3, -9}, {4, -9}}), 0, 9, 9, 2, 1);
