@@ -123,7 +123,9 @@ public final class HappeningsAndWaysEdgesTest {
         s.each("way(2, %, 3, 0)", 28, -1, 2, -1);
         s.each("way(%, 0, 3, 0)", -1, -1, 0, -1, 2, -1);
         new Scene().refuses("way(0, 0, 0, 0)", -1);
-        s.refuses("way(0, -1, 3, 0)", -1);
+        // a LINE without a SAYING is no WORD of one
+        s.then("line(0, 0, 0, 0, -1, -1)").refuses("way(0, -1, 3, 0)", -1);
+        s.then("line(0, 0, 0, 0, -1, -1)").refuses("bearers(-1, 3)", -1);
     }
 
     /** Promise 19: "NONE: it has none" */

@@ -329,7 +329,7 @@ public final class KnownAndBoughtEdgesTest {
             s = s.rule("q:1", 0);
         }
         s = s.times(6, "happen(0, 0, 0, true)").times(7, "mark(0, 0, 1)").times(3, "watcher(0, 0)")
-                .times(8, "want(0, 0)").times(1, "question(1, 1)").tape("q:1+1+1+1+").then("stop(0, 0)", "land(7, 3, 12)");
+                .times(8, "want(0, 0)").then("question(1, 1)", "stop(0, 0)", "land(7, 3, 12)").tape("q:1+1+1+1+");
         s.each("count(%)", -1, -1, 3, 2, 4, 5, 6, 7, 3, 8, 1, 10, 1, 12, -1);
         s.bounds("count(%)", 0, 11, -1);
     }

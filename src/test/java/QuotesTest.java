@@ -86,9 +86,9 @@ public final class QuotesTest {
         Matcher limit = Pattern.compile("-?[\\d,]+ \\.\\. -?[\\w,]+|at most|at least|more than|below|above|of several"
                 + "|of alike|there (are|were)|NONE: |HIDDEN: |False: |-2: |or more|cut").matcher(doc);
         while (limit.find()) {
-            Due.is("a test quotes \"" + limit.group() + "\" at \"" + doc.substring(Math.max(0, limit.start() - 30),
-                    Math.min(doc.length(), limit.end() + 30)) + "\"", isQuoted[limit.start()] && isQuoted[limit.end() - 1],
-                    true);
+            String around = doc.substring(Math.max(0, limit.start() - 30), Math.min(doc.length(), limit.end() + 30));
+            Due.is("a test quotes \"" + limit.group() + "\" in \"" + around + "\"",
+                    isQuoted[limit.start()] && isQuoted[limit.end() - 1], true);
         }
     }
 

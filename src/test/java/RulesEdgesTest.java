@@ -13,6 +13,8 @@ public final class RulesEdgesTest {
         askedUnlikeNone();
         worthOfTheFirst();
         worthWithout();
+        comparisons();
+        joinedConditions();
         numbersWithin();
         lowestNumbers();
         cutTowardsNone();
@@ -135,6 +137,43 @@ public final class RulesEdgesTest {
     private static void holds(String condition) {
         asks("q:" + condition + "?1", 1);
         asks("q:!(" + condition + ")?1", 0);
+    }
+
+    /** Promise 13: "or SUM, one of = < >, SUM" (alike ones, and a step less and more) */
+    private static void comparisons() {
+        String[] numbers = {"0-1000*1000", "0-1", "0", "1", "9999", "1000*1000"};
+        for (int left = 0; left < numbers.length; left++) {
+            for (int right = 0; right < numbers.length; right++) {
+                String both = "q:" + numbers[left] + "%" + numbers[right] + "?1";
+                asks(both.replace("%", "="), left == right ? 1 : 0);
+                asks(both.replace("%", "<"), left < right ? 1 : 0);
+                asks(both.replace("%", ">"), left > right ? 1 : 0);
+            }
+        }
+    }
+
+    /** Promise 13: "CONDITION: PARTS with | between; PART: UNITS with & between; UNIT: ! UNIT, ( CONDITION )" (each
+     * way that two and three of them can hold) */
+    private static void joinedConditions() {
+        for (int bits = 0; bits < 8; bits++) {
+            boolean a = (bits & 1) != 0;
+            boolean b = (bits & 2) != 0;
+            boolean c = (bits & 4) != 0;
+            String one = a ? "1=1" : "1=2";
+            String two = b ? "2>1" : "2<1";
+            String three = c ? "0<1" : "0>1";
+            asks("q:" + one + "|" + two + "&" + three + "?1", a || b && c ? 1 : 0);
+            asks("q:" + one + "&" + two + "|" + three + "?1", a && b || c ? 1 : 0);
+            asks("q:(" + one + "|" + two + ")&" + three + "?1", (a || b) && c ? 1 : 0);
+            asks("q:" + one + "&(" + two + "|" + three + ")?1", a && (b || c) ? 1 : 0);
+            asks("q:!" + one + "|" + two + "?1", !a || b ? 1 : 0);
+            asks("q:!" + one + "&!" + two + "?1", !a && !b ? 1 : 0);
+            asks("q:!(" + one + "|" + two + ")?1", !(a || b) ? 1 : 0);
+            asks("q:!!" + one + "?1", a ? 1 : 0);
+            asks("q:!!!!!!" + one + "?1", a ? 1 : 0);
+            asks("q:!!!!!" + one + "?1", a ? 0 : 1);
+            asks("q:((((((" + one + "))))))?1", a ? 1 : 0);
+        }
     }
 
     /** Promise 13: "Behind each sign numbers are within -1,000,000 .. 1,000,000" (the greatest) */
