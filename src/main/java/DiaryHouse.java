@@ -88,7 +88,7 @@ public final class DiaryHouse {
                 || persons.size() >= MOST_PERSONS) {
             return NONE;
         }
-        persons.add(new Person(place, age, work));
+        persons.add(new Person(persons.size(), place, age, work));
         return persons.size() - 1;
     }
 
@@ -98,7 +98,7 @@ public final class DiaryHouse {
                 || hasStoppedBy(person, day, now)) {
             return NONE;
         }
-        lines.add(new Line(person, day, sort, mood, saying, from, now));
+        lines.add(new Line(persons.get(person), day, sort, mood, saying, from, now));
         return lines.size() - 1;
     }
 
@@ -244,7 +244,7 @@ public final class DiaryHouse {
     }
 
     private boolean mayBeShown(Line line, int day, int rank, int rule) {
-        setPersonLetters(persons.get(line.person));
+        setPersonLetters(line.writer);
         letters[DAY] = day;
         letters[SORT] = line.sort;
         letters[MOOD] = line.mood;
@@ -307,12 +307,15 @@ public final class DiaryHouse {
 
     // Lines come by their numbers, so one that is alike in strength goes behind those picked already.
     private int insertPick(int line, int picked, int most) {
+        if (most > picks.length || picked > most) {
+            return picked;
+        }
         int strength = strengthOf(line);
         int at = picked;
         while (at > 0 && strengthOf(picks[at - 1]) < strength) {
             at--;
         }
-        if (at >= most || most > picks.length) {
+        if (at >= most) {
             return picked;
         }
         int size = picked < most ? picked + 1 : picked;
@@ -342,7 +345,7 @@ public final class DiaryHouse {
             return NONE;
         }
         Line asked = lines.get(line);
-        int place = persons.get(asked.person).place;
+        int place = asked.writer.place;
         for (int i = happenings.size() - 1; i >= 0; i--) {
             Happening happening = happenings.get(i);
             if (happening.told <= q && happening.isOf(place, asked.day, asked.sort)) {
@@ -388,7 +391,7 @@ public final class DiaryHouse {
         Line word = null;
         for (int i = 0; i < lines.size(); i++) {
             Line line = lines.get(i);
-            if (line.person == person && line.saying == saying && line.told <= q
+            if (line.writer.number == person && line.saying == saying && line.told <= q
                     && (word == null || line.day < word.day)) {
                 word = line;
             }
@@ -556,7 +559,7 @@ public final class DiaryHouse {
         for (int i = 0; i < lines.size(); i++) {
             Line line = lines.get(i);
             if (line.sort == sort && line.isFor(day, q)
-                    && persons.get(line.person).livesIn(place, stratum)) {
+                    && line.writer.livesIn(place, stratum)) {
                 sum += line.mood;
                 wrote++;
             }
@@ -615,7 +618,7 @@ public final class DiaryHouse {
         int greatest = NONE;
         for (int i = 0; i < lines.size(); i++) {
             Line line = lines.get(i);
-            if (line.person == person && line.told <= q && line.day >= greatest) {
+            if (line.writer.number == person && line.told <= q && line.day >= greatest) {
                 found = i;
                 greatest = line.day;
             }
@@ -808,7 +811,7 @@ public final class DiaryHouse {
         int sum = 0;
         for (int i = 0; i < lines.size(); i++) {
             Line line = lines.get(i);
-            if (line.isFor(day, now) && isDrawn(line.person, n)) {
+            if (line.isFor(day, now) && isDrawn(line.writer.number, n)) {
                 sum += line.mood;
             }
         }
@@ -911,12 +914,14 @@ public final class DiaryHouse {
     }
 
     private static final class Person {
+        private final int number;
         private final int place;
         private final int age;
         private final int work;
         private final int stratum;
 
-        Person(int place, int age, int work) {
+        Person(int number, int place, int age, int work) {
+            this.number = number;
             this.place = place;
             this.age = age;
             this.work = work;
@@ -935,7 +940,7 @@ public final class DiaryHouse {
     }
 
     private static final class Line {
-        private final int person;
+        private final Person writer;
         private final int day;
         private final int sort;
         private final int mood;
@@ -943,8 +948,8 @@ public final class DiaryHouse {
         private final int from;
         private final int told;
 
-        Line(int person, int day, int sort, int mood, int saying, int from, int told) {
-            this.person = person;
+        Line(Person writer, int day, int sort, int mood, int saying, int from, int told) {
+            this.writer = writer;
             this.day = day;
             this.sort = sort;
             this.mood = mood;
@@ -959,7 +964,7 @@ public final class DiaryHouse {
 
         int part(int what) {
             switch (what) {
-                case 0: return person;
+                case 0: return writer.number;
                 case 1: return day;
                 case 2: return sort;
                 case 3: return mood;
